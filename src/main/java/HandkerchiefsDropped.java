@@ -11,7 +11,7 @@ public final class HandkerchiefsDropped {
 
     private static final int FACTS = 10, ALL_FACTS = 1023, GENTLEMEN = 6, WITNESSES = 6, LINENS = 8;
     private static final int KINDS = 6, MORES = 10, TEXTS = 6, TAPE = 160, SHEETS = 4, CELLS = 40;
-    private static final int MOST = 99, LAST_HOUR = 999, LAST_SEED = 99999, MOST_SEEDS = 40;
+    private static final int MOST = 99, ENOUGH = 100, LAST_HOUR = 999, LAST_SEED = 99999, MOST_SEEDS = 40;
     private static final int LONGEST_RUN = 40, LONGEST_WAY = 60, LONGEST_TALE = 20;
     private static final int LONGEST_ROW = 3, HOURS_BEHIND_ROW = 12, DRAWN_HOURS = 10;
 
@@ -422,7 +422,7 @@ public final class HandkerchiefsDropped {
     }
 
     public int kinds(int s, int p, int sort) {
-        int refusal = refusalOfTale(s, now.hasWitness(p), sort);
+        int refusal = refusalOfFitting(s, now.hasWitness(p), sort);
         if (refusal != 0) {
             return refusal;
         }
@@ -436,12 +436,12 @@ public final class HandkerchiefsDropped {
     }
 
     public int faces(int s, int p, int what) {
-        int refusal = refusalOfTale(s, now.hasWitness(p), what);
+        int refusal = refusalOfFitting(s, now.hasWitness(p), what);
         return refusal != 0 ? refusal : fitting(s, thought.face, p, what);
     }
 
     public int keens(int s, int man, int what) {
-        int refusal = refusalOfTale(s, isBelow(man, GENTLEMEN), what);
+        int refusal = refusalOfFitting(s, isBelow(man, GENTLEMEN), what);
         return refusal != 0 ? refusal : fitting(s, thought.keen, man, what);
     }
 
@@ -503,7 +503,8 @@ public final class HandkerchiefsDropped {
         return sheets[s].size > LONGEST_TALE ? BAD : 0;
     }
 
-    private int refusalOfTale(int s, boolean hasSuch, int what) {
+    /** As of a tale; also why nothing can be fitted to it, if there is no such one or what is not as told. */
+    private int refusalOfFitting(int s, boolean hasSuch, int what) {
         int refusal = refusalOfTale(s);
         if (refusal != 0) {
             return refusal;
@@ -868,7 +869,7 @@ public final class HandkerchiefsDropped {
         }
 
         boolean stoops(int man, int p) {
-            return keen[man] + looks(p, man) >= 100;
+            return keen[man] + looks(p, man) >= ENOUGH;
         }
 
         int stooping(int p) {
@@ -905,7 +906,7 @@ public final class HandkerchiefsDropped {
                 int man = hour % GENTLEMEN;
                 for (int h = 0; h < LINENS; h++) {
                     int p = owner[h];
-                    if (p != NONE && stoops(man, p)) {
+                    if (p != NONE && keen[man] + looks(p, man) >= ENOUGH) {
                         picked |= 1 << fact[h];
                         admitted |= 1 << fact[h];
                         owner[h] = NONE;
@@ -998,21 +999,20 @@ public final class HandkerchiefsDropped {
     private static final class Tape {
         private static final String WORDS = "looks waits drops and or not face known hour lying admitted more ";
         private static final String SIGNS = "();+-*<=";
-        /** A token that is a sign is told by its byte, all others by numbers below any sign's. */
+        /** A token that is a sign is told by its byte, all others by numbers below any sign's: keys as in WORDS. */
         private static final int END = 0, WRONG = 1, NUMBER = 2, NAME = 3;
-        private static final int LOOKS = 4, WAITS = 5, DROPS = 6, AND = 7, OR = 8, NOT = 9;
-        private static final int KEYS = 6, LONGEST_NUMBER = 4, DEEPEST = 5;
+        private static final int LOOKS = 4, AND = 7, OR = 8, NOT = 9;
+        private static final int PARTS = 3, KEYS = 6, LONGEST_NUMBER = 4, DEEPEST = 5;
 
         private final int[] bytes = new int[TAPE];
         private final int[] code = new int[TAPE];
+        private final int[] starts = new int[PARTS];
         private int size;
         private int at;
         private int token;
         private int place;
         private int value;
         private int used;
-        private int waitsAt;
-        private int dropsAt;
 
         void append(int b) {
             if (size < bytes.length) {
@@ -1026,20 +1026,16 @@ public final class HandkerchiefsDropped {
             at = 0;
             used = 0;
             advance();
-            boolean fine = isPart(LOOKS);
-            waitsAt = used;
-            fine = fine && isPart(WAITS);
-            dropsAt = used;
-            fine = fine && isPart(DROPS) && token == END;
-            return fine ? NONE : place;
+            boolean fine = true;
+            for (int part = 0; part < PARTS && fine; part++) {
+                starts[part] = used;
+                fine = isTaken(LOOKS + part) && isEither(0) && isTaken(';');
+            }
+            return fine && token == END ? NONE : place;
         }
 
         Law lawRead(int number) {
-            return new Law(number, Arrays.copyOf(code, used), waitsAt, dropsAt);
-        }
-
-        private boolean isPart(int key) {
-            return isTaken(key) && isEither(0) && isTaken(';');
+            return new Law(number, Arrays.copyOf(code, used), starts[1], starts[2]);
         }
 
         private boolean isTaken(int wanted) {
