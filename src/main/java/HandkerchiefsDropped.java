@@ -675,7 +675,7 @@ public final class HandkerchiefsDropped {
             return NOTHING_THERE;
         }
         if (isWitness) {
-            return kind < KINDS && Kinds.isOne(now.kind[i], kind) ? i : OTHER_SORT;
+            return Kinds.isOne(now.kind[i], kind) ? i : OTHER_SORT;
         }
         return kind == KINDS ? now.fact[i - WITNESSES] : OTHER_SORT;
     }

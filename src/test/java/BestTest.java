@@ -64,6 +64,11 @@ public final class BestTest {
         HandkerchiefsDropped x = plain();
         x.put(2, 0, 0);
         check.due("she knows nothing", x.advise(1, 0), 0);
+        x.witness(0, 0, 90);
+        x.witness(0, 4, 90);
+        check.due("the sixth", x.advise(1, 0), 5);
+        check.due("the sixth", x.cast(1, 0), 6);
+        x.put(5, 0, 0);
         for (int h = 0; h < 8; h++) {
             x.drop(3);
         }
@@ -97,6 +102,12 @@ public final class BestTest {
         check.due("0 is not above 0", x.turn(0), 1);
         x.court(0, 0, -19);
         check.due("1 is above 0", x.turn(0), -1);
+        x.court(3, 0, 1 | 4);
+        check.due("of the verdict 1", x.turn(0), -1);
+        x.court(0, 4, -1);
+        check.due("of the verdict 1", x.turn(0), 16);
+        x.court(0, 4, 0);
+        x.court(3, 0, 4);
         check.due("what", x.turn(2), -2);
         check.due("what", x.turn(-1), -2);
         check.due("nothing changed", x.bench(2, 0), 4);
@@ -118,6 +129,7 @@ public final class BestTest {
         check.due("not more than so", x.gallant(1, 0), -1);
         check.due("as so", x.gallant(1, 1), 2);
         check.due("who is how keen stays", x.bench(1, 0), 0);
+        check.due("40 hours", x.gallant(40, 1), 2);
         check.due("n", x.gallant(41, 0), -2);
         check.due("n", x.gallant(-1, 0), -2);
         check.due("what", x.gallant(1, 2), -2);
@@ -204,6 +216,9 @@ public final class BestTest {
     private static void means() {
         HandkerchiefsDropped x = new HandkerchiefsDropped();
         mean(x, HandkerchiefsDropped.NO, HandkerchiefsDropped.NO);
+        x.court(3, 0, 512);
+        x.court(0, 9, -7);
+        mean(x, -7, 1);
         x.court(3, 0, 15);
         mean(x, 0, 1);
         x.court(0, 0, 6);

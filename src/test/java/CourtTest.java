@@ -301,6 +301,8 @@ public final class CourtTest {
         check.due("stoops", x.regard(0, 0, 1), 0);
         check.due("stoops", x.regard(0, 1, 1), 1);
         check.due("stoops", x.regard(0, 4, 1), 1);
+        x.court(1, 0, 60);
+        check.due("who stoops", x.told(0, 8), 1 | 2 | 4 | 16);
     }
 
     private static void linen() {

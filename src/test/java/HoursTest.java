@@ -207,9 +207,11 @@ public final class HoursTest {
         x.court(1, 2, 0);
         x.drop(0);
         check.due("not by 60", x.when(-1), -1);
-        for (int i = 0; i < 39; i++) {
+        for (int i = 0; i < 38; i++) {
             x.hour();
         }
+        check.due("by 61", x.when(-1), -1);
+        x.hour();
         check.due("just by 60", x.when(-1), 60);
         x.court(1, 2, 40);
         check.due("who passes in hour 44", x.when(0), 6);

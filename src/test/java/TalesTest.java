@@ -106,6 +106,7 @@ public final class TalesTest {
         Check.fill(x, 1, 1, 0);
         check.due("from 5 on", x.kinds(1, 0, 1), 1023 - 31);
         check.due("her more stays", x.told(0, 4), 0);
+        check.due("her more stays in thought, too", x.run(1, 0), 1);
         HandkerchiefsDropped y = new HandkerchiefsDropped();
         y.witness(19, 1, 0);
         y.court(2, 0, 2);

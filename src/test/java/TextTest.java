@@ -106,6 +106,10 @@ public final class TextTest {
         value("3 and 3 and 0", 0);
         value("not 0+1", 0);
         value("3*(2 or 0)", 3);
+        value("5*(3<4)", 5);
+        value("7-(2=2)", 6);
+        value("9+(2 and 2)", 10);
+        value("9-(not 0)", 8);
         value("256*256*256*256=0", 1);
         value("256*256*256*128<0", 1);
         value("256*256*256*128-1<0", 0);
@@ -159,6 +163,9 @@ public final class TextTest {
         fault("looks face2;", 10);
         fault("looks faces;", 6);
         fault("looks fac;", 6);
+        fault("looks facez;", 6);
+        fault("looks (x 1);", 7);
+        fault("looks -x 1;", 7);
         fault("look 1;", 0);
         fault("looks1;waits1;drops1;x", 21);
         fault("looks 12345;", 6);
@@ -173,6 +180,8 @@ public final class TextTest {
         fault("looks 1 1 ?", 8);
         fault("looks ? )", 6);
         HandkerchiefsDropped x = new HandkerchiefsDropped();
+        check.due("a word of 20", Check.read(x, "aaaaaaaaaaaaaaaaaaaa"), -100);
+        check.due("nothing of it stays behind", Check.read(x, "looks 1;waits"), -113);
         check.due("without blanks", Check.read(x, "looks1;waits2;drops3;"), 1);
     }
 
@@ -198,6 +207,9 @@ public final class TextTest {
     }
 
     private static void longest() {
+        fault(" ".repeat(153) + "looks 1", 160);
+        fault(" ".repeat(155) + "looks", 160);
+        fault(" ".repeat(159) + "?", 159);
         HandkerchiefsDropped x = new HandkerchiefsDropped();
         StringBuilder text = new StringBuilder("looks 1;waits 1;drops 0");
         while (text.length() < 157) {
