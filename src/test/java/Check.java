@@ -55,6 +55,11 @@ final class Check {
         }
     }
 
+    /** Numbers on both sides of a range, next to it and as far from it as can be. */
+    static int[] outside(int least, int most) {
+        return new int[] {Integer.MIN_VALUE, least - 1, most + 1, Integer.MAX_VALUE};
+    }
+
     /** Makes a sheet a row of these numbers. */
     static void fill(HandkerchiefsDropped x, int s, int sort, int... numbers) {
         x.sheet(s, sort, numbers.length);
