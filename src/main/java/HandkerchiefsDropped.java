@@ -906,6 +906,7 @@ public final class HandkerchiefsDropped {
                 int man = hour % GENTLEMEN;
                 for (int h = 0; h < LINENS; h++) {
                     int p = owner[h];
+                    // As stoops() has it, written out: calls may go eight deep, and this is the deepest.
                     if (p != NONE && keen[man] + looks(p, man) >= ENOUGH) {
                         picked |= 1 << fact[h];
                         admitted |= 1 << fact[h];

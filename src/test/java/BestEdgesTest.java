@@ -28,18 +28,6 @@ public final class BestEdgesTest {
         check.end();
     }
 
-    /** Nobody is keen, and all look by the hour: 99 in that one alone. Witnesses of fact 0, of weight 5, wait 99. */
-    private static HandkerchiefsDropped onlyInHour(int hour, int witnesses) {
-        HandkerchiefsDropped x = new HandkerchiefsDropped();
-        Check.allKeen(x, 1);
-        x.court(0, 0, 5);
-        for (int p = 0; p < witnesses; p++) {
-            x.witness(0, 1, 0);
-        }
-        Check.rule(x, "looks 99*(hour=" + hour + ");waits 99;drops 0;");
-        return x;
-    }
-
     /** Six witnesses for whom all stoop, of a fact each: fact p of such a weight. */
     private static HandkerchiefsDropped six(int... weights) {
         HandkerchiefsDropped x = new HandkerchiefsDropped();
@@ -76,7 +64,7 @@ public final class BestEdgesTest {
     }
 
     private static void promise20AdviseEnds() {
-        HandkerchiefsDropped x = onlyInHour(39, 1);
+        HandkerchiefsDropped x = Check.onlyInHour(39, 1);
         check.due("behind 40", x.advise(40, 0), 0);
         check.due("behind 40, that", x.advise(40, 1), 5);
         check.due("behind 39", x.advise(39, 0), -1);
@@ -192,7 +180,7 @@ public final class BestEdgesTest {
     }
 
     private static void promise22GallantEnds() {
-        HandkerchiefsDropped x = onlyInHour(39, 1);
+        HandkerchiefsDropped x = Check.onlyInHour(39, 1);
         Check.allKeen(x, 0);
         x.drop(0);
         check.due("behind 40: GENTLEMAN 39 modulo 6", x.gallant(40, 0), 3);
@@ -275,21 +263,21 @@ public final class BestEdgesTest {
     }
 
     private static void promise23CastHoursBehind() {
-        HandkerchiefsDropped x = onlyInHour(14, 3);
+        HandkerchiefsDropped x = Check.onlyInHour(14, 3);
         x.drop(0);
         check.due("an HOUR behind each of three, and 12", x.cast(3, 0), 123);
         check.due("that", x.cast(3, 1), 5);
         check.due("an HOUR behind each of two, and 12", x.cast(2, 0), 0);
         check.due("that", x.cast(2, 1), 0);
-        HandkerchiefsDropped y = onlyInHour(15, 3);
+        HandkerchiefsDropped y = Check.onlyInHour(15, 3);
         y.drop(0);
         check.due("15 HOURS end ahead of 15", y.cast(3, 1), 0);
-        HandkerchiefsDropped z = onlyInHour(11, 1);
+        HandkerchiefsDropped z = Check.onlyInHour(11, 1);
         z.drop(0);
         check.due("12 HOURS behind none", z.cast(0, 1), 5);
-        HandkerchiefsDropped w = onlyInHour(0, 1);
+        HandkerchiefsDropped w = Check.onlyInHour(0, 1);
         check.due("she LETS one FALL ahead of her HOUR", w.cast(1, 0), 1);
-        HandkerchiefsDropped v = onlyInHour(1, 2);
+        HandkerchiefsDropped v = Check.onlyInHour(1, 2);
         v.put(0, 0, 2);
         v.court(0, 1, 3);
         check.due("the next one ahead of the second HOUR", v.cast(2, 0), 12);

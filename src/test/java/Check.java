@@ -60,6 +60,18 @@ final class Check {
         return new int[] {Integer.MIN_VALUE, least - 1, most + 1, Integer.MAX_VALUE};
     }
 
+    /** Nobody is keen, and all look by the hour: 99 in that one alone. Witnesses of fact 0, of weight 5, wait 99. */
+    static HandkerchiefsDropped onlyInHour(int hour, int witnesses) {
+        HandkerchiefsDropped x = new HandkerchiefsDropped();
+        allKeen(x, 1);
+        x.court(0, 0, 5);
+        for (int p = 0; p < witnesses; p++) {
+            x.witness(0, 1, 0);
+        }
+        rule(x, "looks 99*(hour=" + hour + ");waits 99;drops 0;");
+        return x;
+    }
+
     /** Makes a sheet a row of these numbers. */
     static void fill(HandkerchiefsDropped x, int s, int sort, int... numbers) {
         x.sheet(s, sort, numbers.length);

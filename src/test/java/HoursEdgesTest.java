@@ -24,16 +24,6 @@ public final class HoursEdgesTest {
         check.end();
     }
 
-    /** Nobody is keen, and all look by the hour: 99 in that one alone. One witness of fact 0 waits 99. */
-    private static HandkerchiefsDropped onlyInHour(int hour) {
-        HandkerchiefsDropped x = new HandkerchiefsDropped();
-        Check.allKeen(x, 1);
-        x.court(0, 0, 5);
-        x.witness(0, 1, 0);
-        Check.rule(x, "looks 99*(hour=" + hour + ");waits 99;drops 0;");
-        return x;
-    }
-
     private static void promise14Drop() {
         HandkerchiefsDropped x = new HandkerchiefsDropped();
         x.witness(0, 1023, 0);
@@ -199,7 +189,7 @@ public final class HoursEdgesTest {
     }
 
     private static void promise17Run() {
-        HandkerchiefsDropped x = onlyInHour(0);
+        HandkerchiefsDropped x = Check.onlyInHour(0, 1);
         x.drop(0);
         for (int n : Check.outside(0, 40)) {
             check.due("-5000: n", x.run(n, 0), -5000);
@@ -222,11 +212,11 @@ public final class HoursEdgesTest {
     }
 
     private static void promise17RunEnds() {
-        HandkerchiefsDropped x = onlyInHour(39);
+        HandkerchiefsDropped x = Check.onlyInHour(39, 1);
         x.drop(0);
         check.due("39 HOURS are 0 to 38", x.run(39, 0), 0);
         check.due("40 HOURS are 0 to 39", x.run(40, 0), 1);
-        HandkerchiefsDropped y = onlyInHour(40);
+        HandkerchiefsDropped y = Check.onlyInHour(40, 1);
         y.drop(0);
         check.due("40 HOURS end ahead of 40", y.run(40, 0), 0);
     }
@@ -246,7 +236,7 @@ public final class HoursEdgesTest {
     }
 
     private static void promise18When() {
-        HandkerchiefsDropped x = onlyInHour(0);
+        HandkerchiefsDropped x = Check.onlyInHour(0, 1);
         for (int what : Check.outside(-1, 9)) {
             check.due("-7: what", x.when(what), -7);
         }
@@ -271,11 +261,11 @@ public final class HoursEdgesTest {
     }
 
     private static void promise18WhenEnds() {
-        HandkerchiefsDropped x = onlyInHour(59);
+        HandkerchiefsDropped x = Check.onlyInHour(59, 1);
         x.drop(0);
         check.due("in the 60th HOUR", x.when(0), 60);
         check.due("none is there", x.when(-1), 60);
-        HandkerchiefsDropped y = onlyInHour(60);
+        HandkerchiefsDropped y = Check.onlyInHour(60, 1);
         y.drop(0);
         check.due("in the 61st: not by then", y.when(0), -1);
         check.due("it is there: not by then", y.when(-1), -1);
@@ -284,7 +274,7 @@ public final class HoursEdgesTest {
     }
 
     private static void promise19Fate() {
-        HandkerchiefsDropped x = onlyInHour(0);
+        HandkerchiefsDropped x = Check.onlyInHour(0, 1);
         for (int h : Check.outside(0, 7)) {
             check.due("-6: no such number", x.fate(h, 0), -6);
             check.due("-6 ahead of what", x.fate(h, 2), -6);
@@ -304,11 +294,11 @@ public final class HoursEdgesTest {
     }
 
     private static void promise19FateEnds() {
-        HandkerchiefsDropped x = onlyInHour(98);
+        HandkerchiefsDropped x = Check.onlyInHour(98, 1);
         x.drop(0);
         check.due("in her last HOUR: GENTLEMAN 98 modulo 6", x.fate(0, 0), 2);
         check.due("behind 99", x.fate(0, 1), 99);
-        HandkerchiefsDropped y = onlyInHour(99);
+        HandkerchiefsDropped y = Check.onlyInHour(99, 1);
         y.drop(0);
         check.due("an HOUR too late: nobody", y.fate(0, 0), -1);
         check.due("behind 99", y.fate(0, 1), 99);
@@ -319,7 +309,7 @@ public final class HoursEdgesTest {
     }
 
     private static void thoughtPasses999() {
-        HandkerchiefsDropped x = onlyInHour(1001);
+        HandkerchiefsDropped x = Check.onlyInHour(1001, 1);
         x.court(2, 0, 999);
         x.drop(0);
         check.due("run, in thought", x.run(2, 1), 0);
