@@ -1,6 +1,8 @@
 import com.sun.source.tree.BinaryTree;
 import com.sun.source.tree.ClassTree;
 import com.sun.source.tree.CompilationUnitTree;
+import com.sun.source.tree.DoWhileLoopTree;
+import com.sun.source.tree.ForLoopTree;
 import com.sun.source.tree.LineMap;
 import com.sun.source.tree.LiteralTree;
 import com.sun.source.tree.MemberSelectTree;
@@ -8,6 +10,7 @@ import com.sun.source.tree.MethodInvocationTree;
 import com.sun.source.tree.MethodTree;
 import com.sun.source.tree.Tree;
 import com.sun.source.tree.VariableTree;
+import com.sun.source.tree.WhileLoopTree;
 import com.sun.source.util.JavacTask;
 import com.sun.source.util.SourcePositions;
 import com.sun.source.util.TreeScanner;
@@ -15,6 +18,8 @@ import com.sun.source.util.Trees;
 import java.io.File;
 import java.lang.reflect.Member;
 import java.lang.reflect.Modifier;
+import java.nio.file.Files;
+import java.nio.file.Path;
 import java.util.Arrays;
 import java.util.HashMap;
 import java.util.HashSet;
@@ -44,12 +49,17 @@ public final class LanguageTest {
     /** What the source may call that it does not write itself. */
     private static final Set<String> LIBRARY = Set.of("Math.max", "Math.min", "Math.abs", "Math.floorMod",
         "Integer.bitCount", "System.arraycopy", "Arrays.fill", "Arrays.copyOf", "length", "charAt", "indexOf");
+    private static final Set<String> NUMBERS =
+        Set.of("int", "long", "short", "byte", "char", "boolean", "double", "float");
+    /** Divisors that the lines ahead of them look at, or a condition in the same line. */
+    private static final Set<String> LOOKED_AT = Set.of("small", "shared", "many", "(man % 2 == 0 ? 2 : 1)");
     private static final Set<Tree.Kind> BARRED = Set.of(Tree.Kind.THROW, Tree.Kind.TRY, Tree.Kind.CATCH,
         Tree.Kind.SYNCHRONIZED, Tree.Kind.ASSERT, Tree.Kind.LAMBDA_EXPRESSION, Tree.Kind.MEMBER_REFERENCE,
         Tree.Kind.ANNOTATION, Tree.Kind.SWITCH_EXPRESSION);
 
     public static void main(String[] args) throws Exception {
         face();
+        signs();
         source();
         check.end();
     }
@@ -80,6 +90,11 @@ public final class LanguageTest {
         return !Modifier.isPrivate(m.getModifiers()) && !m.isSynthetic();
     }
 
+    private static void signs() throws Exception {
+        String source = Files.readString(Path.of(SOURCE));
+        check.isTrue("signs are 1 to 127", source.chars().allMatch(c -> c >= 1 && c <= 127));
+    }
+
     private static void source() throws Exception {
         JavaCompiler compiler = ToolProvider.getSystemJavaCompiler();
         try (StandardJavaFileManager files = compiler.getStandardFileManager(null, null, null)) {
@@ -105,6 +120,8 @@ public final class LanguageTest {
         private final Map<String, Set<String>> calls = new TreeMap<>();
         private final Set<String> publics = new HashSet<>();
         private final Set<String> privates = new HashSet<>();
+        private final Set<String> owns = new HashSet<>();
+        private final Set<String> types = new TreeSet<>();
         private String method = "";
         private String clazz = "";
         private int classes;
@@ -126,6 +143,7 @@ public final class LanguageTest {
             String outer = clazz;
             clazz = tree.getSimpleName().toString();
             classes++;
+            owns.add(clazz);
             Set<javax.lang.model.element.Modifier> m = tree.getModifiers().getFlags();
             if (!outer.isEmpty()) {
                 check.isTrue(clazz + " is private or package-visible, and static",
@@ -164,9 +182,35 @@ public final class LanguageTest {
                 privates.add(method);
             }
             calls.computeIfAbsent(method, k -> new TreeSet<>());
+            types.add(String.valueOf(tree.getReturnType()));
             super.visitMethod(tree, none);
             method = "";
             return null;
+        }
+
+        @Override public Void visitVariable(VariableTree tree, Void none) {
+            types.add(tree.getType().toString());
+            return super.visitVariable(tree, none);
+        }
+
+        @Override public Void visitForLoop(ForLoopTree tree, Void none) {
+            boolean isBound = tree.getCondition() != null && !isTrue(tree.getCondition());
+            check.isTrue("a loop's end can be seen: " + tree, isBound);
+            return super.visitForLoop(tree, none);
+        }
+
+        @Override public Void visitWhileLoop(WhileLoopTree tree, Void none) {
+            check.isTrue("a loop's end can be seen: " + tree, !isTrue(tree.getCondition()));
+            return super.visitWhileLoop(tree, none);
+        }
+
+        @Override public Void visitDoWhileLoop(DoWhileLoopTree tree, Void none) {
+            check.isTrue("a loop's end can be seen: " + tree, !isTrue(tree.getCondition()));
+            return super.visitDoWhileLoop(tree, none);
+        }
+
+        private static boolean isTrue(Tree condition) {
+            return condition.toString().replaceAll("[()]", "").equals("true");
         }
 
         @Override public Void visitMethodInvocation(MethodInvocationTree tree, Void none) {
@@ -181,6 +225,11 @@ public final class LanguageTest {
             boolean joins = tree.getKind() == Tree.Kind.PLUS
                 && (isString(tree.getLeftOperand()) || isString(tree.getRightOperand()));
             check.isTrue("no text is joined by +: " + tree, !joins);
+            if (tree.getKind() == Tree.Kind.DIVIDE || tree.getKind() == Tree.Kind.REMAINDER) {
+                String divisor = tree.getRightOperand().toString();
+                check.isTrue("a divisor that is fixed or looked at: " + tree, divisor.matches("[1-9]\\d*L?|[A-Z]+")
+                    || LOOKED_AT.contains(divisor));
+            }
             return super.visitBinary(tree, none);
         }
 
@@ -190,6 +239,9 @@ public final class LanguageTest {
 
         void judge() {
             check.isTrue("classes " + classes, classes <= 12);
+            for (String type : types) {
+                check.isTrue("type " + type, isKnown(type));
+            }
             privates.remove("<init>");
             for (String name : privates) {
                 check.isTrue("private " + name + " bears no public name", !publics.contains(name));
@@ -204,6 +256,14 @@ public final class LanguageTest {
                 int deep = depth(name, new HashMap<>());
                 check.isTrue(name + " goes " + deep + " deep", deep <= 8);
             }
+        }
+
+        /** Rule 3: numbers and their arrays, own classes and arrays of one dimension of these, String. */
+        private boolean isKnown(String type) {
+            String one = type.replace("[]", "");
+            int dimensions = (type.length() - one.length()) / 2;
+            boolean plain = NUMBERS.contains(one) && dimensions <= 2 || owns.contains(one) && dimensions <= 1;
+            return plain || Set.of("void", "null", "String").contains(type);
         }
 
         /** The longest way of calls from a method on; methods that call one another count as one. */
